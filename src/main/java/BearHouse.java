@@ -1303,7 +1303,7 @@ public final class BearHouse {
         private static final int SHELVES = ALL / Shelf.STANDS + 1;
 
         private final Shelf[] shelves = new Shelf[SHELVES];
-        // ranks[16 * k + m]: in how many ways fewer than m MEN stand, or m with an order below, on k POINTS.
+        // ranks[16 * k + m]: in how many ways fewer than m MEN can stand on k POINTS.
         private final int[] ranks = new int[16 * (HOME + 1)];
         private final long[] powers = new long[LAST_ROLL + 1];
         private final long[] tally = new long[LAST_ROLL];
@@ -1437,15 +1437,11 @@ public final class BearHouse {
         }
 
         void putRolls(int stand, Whole number) {
-            number.set(0);
-            addRolls(stand, 1, number);
-        }
-
-        private void addRolls(int stand, int times, Whole number) {
             int rank = rankOf(stand);
             Shelf shelf = shelfOf(rank);
+            number.set(0);
             if (shelf != null) {
-                number.add(shelf.cells, cellOf(rank), times);
+                number.add(shelf.cells, cellOf(rank), 1);
             }
         }
 
@@ -1467,9 +1463,16 @@ public final class BearHouse {
         }
 
         private void count(int stand, int times) {
-            addRolls(stand, times, sum);
-            for (int n = 0; n < LAST_ROLL; n++) {
-                tally[n] += times * chances(stand, n);
+            int rank = rankOf(stand);
+            Shelf shelf = shelfOf(rank);
+            if (shelf == null) {
+                return;
+            }
+            int cell = cellOf(rank);
+            sum.add(shelf.cells, cell, times);
+            tally[0] += stand == 0 ? times : 0;
+            for (int n = 1; n < LAST_ROLL; n++) {
+                tally[n] += times * shelf.cells[cell + Whole.PARTS + n - 1];
             }
         }
 
