@@ -1577,13 +1577,16 @@ public final class BearHouse {
             return 0;
         }
 
-        /** Puts 36 to the 24th times RACE, by the roll at which the first has none left. */
+        /**
+         * Puts 36 to the 24th times RACE, by the roll at which the first has none left. If it has none
+         * to begin with, that counts for roll 1: the second, having some, is not ahead of that either.
+         */
         void putRace(int first, int second, Whole number) {
             number.set(0);
             long before = 0;
-            for (int n = 0; n <= LAST_ROLL; n++) {
+            for (int n = 1; n <= LAST_ROLL; n++) {
                 long by = chances(first, n) * powers[LAST_ROLL - n];
-                long rivals = n == 0 ? 0 : chances(second, n - 1) * powers[LAST_ROLL - n + 1];
+                long rivals = chances(second, n - 1) * powers[LAST_ROLL - n + 1];
                 sum.set(by - before);
                 factor.set(powers[LAST_ROLL] - rivals);
                 number.addProduct(sum, factor);

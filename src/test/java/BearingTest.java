@@ -238,6 +238,10 @@ public final class BearingTest {
         printed(x, "race(0x100000, 0x100000)", x.race(0x100000, 0x100000), "13/16");
         printed(x, "race(0, 0x100000)", x.race(0, 0x100000), "1");
         printed(x, "race(0x100000, 0)", x.race(0x100000, 0), "0");
+        BearHouse y = learned(12);
+        printed(y, "race(0x100000, 0x100000), asked first", y.race(0x100000, 0x100000), "13/16");
+        BearHouse z = learned(12);
+        printed(z, "race(0, 1), asked first", z.race(0, 1), "1");
         Check.due("best(0x100000, 6, 1)", x.best(0x100000, 6, 1), 0);
         Check.due("best(0x100000, 1, 2)", x.best(0x100000, 1, 2), 0x100);
         Check.due("octet(4)", x.octet(4), -1);
@@ -262,13 +266,17 @@ public final class BearingTest {
                         BEST.get(stand)[at]);
             }
             int n = chance.nextInt(13);
-            printed(x, "within(" + stand + ", " + n + ")", x.within(stand, n), fraction(within(stand, n), ROLLS.pow(n)));
+            printed(x, "within(" + stand + ", " + n + ")", x.within(stand, n),
+                    fraction(within(stand, n), ROLLS.pow(n)));
         }
         // Asked alone, on a new object, the answer is the same.
         for (int stand : new int[] {0xf00000, 0x333330, 0x00000f, 0x210210, 0x100000 * 7 + 8}) {
             BearHouse y = learned(pips(stand));
             printed(y, "rolls(" + stand + ")", y.rolls(stand), fraction(LEAST.get(stand), SCALE));
-            printed(y, "within(" + stand + ", 12)", y.within(stand, 12), fraction(within(stand, 12), ROLLS.pow(12)));
+            BearHouse z = learned(pips(stand));
+            printed(z, "within(" + stand + ", 12)", z.within(stand, 12), fraction(within(stand, 12), ROLLS.pow(12)));
+            BearHouse u = learned(90);
+            Check.due("best(" + stand + ", 2, 1)", u.best(stand, 2, 1), BEST.get(stand)[6]);
         }
     }
 

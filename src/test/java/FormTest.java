@@ -80,7 +80,8 @@ public final class FormTest {
     }
 
     private static void source(String text) {
-        String code = text.replaceAll("(?s)/\\*.*?\\*/", "").replaceAll("//[^\n]*", "").replaceAll("\"[^\"\n]*\"", "\"\"");
+        String code = text.replaceAll("(?s)/\\*.*?\\*/", "").replaceAll("//[^\n]*", "")
+                .replaceAll("\"[^\"\n]*\"", "\"\"");
         for (String word : new String[] {"try", "catch", "finally", "synchronized", "assert", "instanceof",
             "double", "float", "Exact", "getMessage", "package", "Random", "System.currentTimeMillis",
             "System.nanoTime", "System.out", "System.exit", "Thread", "hashCode", "toString"}) {
@@ -117,7 +118,7 @@ public final class FormTest {
     /** All STANDS worked out, and POSITIONS with many RESULTS. */
     private static void dearRun(int calls) {
         BearHouse x = new BearHouse();
-        Check.position(x, "24:1,23:1,22:1,21:1,20:1,19:1,18:1,17:1,16:1,15:1,14:1,13:1,12:1,11:1,10:1;;0".replace(";;", ";24:1;"));
+        Check.position(x, "24:1,23:1,22:1,21:1,20:1,19:1,18:1,17:1,16:1,15:1,14:1,13:1,12:1,11:1,10:1;24:1;0");
         for (int k = 0; k < calls - 10; k++) {
             if (k < 90) {
                 x.learn();

@@ -195,6 +195,30 @@ public final class MatchTest {
             return 0;
         });
         onceAMatch();
+        oncePerMatch();
+    }
+
+    /** What a match has seen of it is gone with the next match. */
+    private static void oncePerMatch() {
+        BearHouse x = new BearHouse();
+        x.begin(2);
+        winByPass(x, 0);
+        x.begin(2);
+        Check.due("the first game of a match", x.match(5), 0);
+        winByPass(x, 1);
+        x.next();
+        Check.due("the second game", x.match(5), 1);
+        x.begin(2);
+        Check.due("the first game again", x.match(5), 0);
+        winByPass(x, 0);
+        x.next();
+        Check.due("the second game again", x.match(5), 1);
+        openFor(x, 0);
+        Check.badState("offer() there", x::offer);
+        x.begin(3);
+        Check.due("to 3", x.match(5), 0);
+        openFor(x, 0);
+        Check.due("offer() there", x.offer(), 2);
     }
 
     /** To 3: 0 comes to 2, the CRAWFORD game goes to 1, so do two more: it is not the CRAWFORD one again. */
@@ -267,11 +291,17 @@ public final class MatchTest {
         }
     }
 
+    /** How often a game ended with no MAN of the loser OFF and its highest one on this POINT. */
+    private static final int[] HIGHEST = new int[26];
+
     private static void endings() {
         int[] seen = new int[4];
         Random chance = new Random(7);
-        for (int k = 0; k < 120; k++) {
+        for (int k = 0; k < 120 || k < 3000 && (HIGHEST[18] == 0 || HIGHEST[19] == 0 || HIGHEST[25] == 0); k++) {
             seen[ending(k % 2, k / 2 % 3, chance)]++;
+        }
+        for (int point : new int[] {18, 19, 24, 25}) {
+            Check.due("endings with " + point + " the highest were seen", HIGHEST[point] > 0 ? 1 : 0, 1);
         }
         for (int times = 1; times <= 3; times++) {
             Check.due("endings worth " + times + " were seen", seen[times] > 4 ? 1 : 0, 1);
@@ -302,6 +332,12 @@ public final class MatchTest {
         int times = x.men(1 - who, 0) > 0 ? 1 : 2;
         for (int p = 19; p <= 25; p++) {
             times = x.men(1 - who, p) > 0 && times >= 2 ? 3 : times;
+        }
+        for (int p = 25; p >= 1 && times >= 2; p--) {
+            if (x.men(1 - who, p) > 0) {
+                HIGHEST[p]++;
+                break;
+            }
         }
         Check.due("all OFF", x.men(who, 0), 15);
         Check.due("OVER", x.ask(3), 1);

@@ -15,6 +15,7 @@ public final class PlaysTest {
         }
         fromTheStart(chance);
         many();
+        oneBehindTheOther();
         Check.finish("PlaysTest");
     }
 
@@ -64,6 +65,22 @@ public final class PlaysTest {
         compare(r, 5, 5, new Random(1));
         compare(r, 3, 3, new Random(1));
         compare(r, 1, 1, new Random(1));
+    }
+
+    /** The RESULTS ahead go, also when there is no MOVE then. */
+    private static void oneBehindTheOther() {
+        BearHouse x = new BearHouse();
+        Check.position(x, "25:1,6:3;1:2,2:2;0");
+        Check.due("plays(3, 4)", x.plays(3, 4) > 1 ? 1 : 0, 1);
+        Check.due("plays(1, 2)", x.plays(1, 2), 1);
+        Check.due("way(0, 0)", x.way(0, 0), -1);
+        Check.due("result(0, 0, 25)", x.result(0, 0, 25), 1);
+        Check.due("plays(2, 2)", x.plays(2, 2), 1);
+        Check.due("plays(3, 2)", x.plays(3, 2), 2);
+        Check.due("plays(1, 1)", x.plays(1, 1), 1);
+        Check.due("way(0, 0)", x.way(0, 0), -1);
+        Check.due("choose(0)", x.choose(0), 1);
+        Check.due("men(0, 25)", x.men(0, 25), 1);
     }
 
     private static void compare(Rules r, int a, int b, Random chance) {

@@ -131,6 +131,10 @@ public final class TextTest {
         badMove("ba/5", 3, 1, 1, 0);
         badMove("barr/5", 3, 1, 1, 0);
         badMove("8/offf", 3, 1, 1, 2);
+        badMove("barz/5", 3, 1, 1, 0);
+        badMove("abar/5", 3, 1, 1, 0);
+        badMove("8/offz", 3, 1, 1, 2);
+        badMove("8/aoff", 3, 1, 1, 2);
         badMove("8/of", 3, 1, 1, 2);
         badMove("Bar/5", 3, 1, 1, 0);
         badMove("8/5**", 3, 1, 1, 4);
