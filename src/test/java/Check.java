@@ -39,6 +39,21 @@ final class Check {
         System.out.println(call + " " + got + ", due is " + want.getSimpleName());
     }
 
+    static int asked() {
+        return asked;
+    }
+
+    static int wrong() {
+        return wrong;
+    }
+
+    /** The call throws this, and nothing that can be seen of the object is another then. */
+    static void refused(Class<? extends RuntimeException> want, String call, BearHouse x, LongSupplier made) {
+        String before = Show.all(x);
+        throwing(want, call, made);
+        due("what can be seen behind " + call, Show.all(x), before);
+    }
+
     static void badArgument(String call, LongSupplier made) {
         throwing(IllegalArgumentException.class, call, made);
     }
@@ -83,7 +98,8 @@ final class Check {
 
     static String page(BearHouse x) {
         StringBuilder text = new StringBuilder();
-        for (int k = 0; k < x.ask(5); k++) {
+        int size = x.ask(5);
+        for (int k = 0; k < size; k++) {
             text.append((char) x.octet(k));
         }
         return text.toString();
