@@ -45,13 +45,15 @@ final class Promises13To24Edges {
         holds(19, "LEVEL is one more: how many STANDS have just so many PIPS.", Promises13To24Edges::oneLevelMore);
         holds(19, "IllegalStateException: it is 90.", Promises13To24Edges::levelNinety);
         holds(20, "ROLLS of a STAND are printed: how many bytes.", Promises13To24Edges::rollsPrinted);
-        holds(20, "IllegalArgumentException: it is none; IllegalStateException: it is not KNOWN.",
-                Promises13To24Edges::rollsRefused);
+        holds(20, "IllegalArgumentException: it is none;", Promises13To24Edges::rollsOfNoStand);
+        holds(20, "IllegalStateException: it is not KNOWN.", Promises13To24Edges::rollsNotKnown);
         holds(21, "The STAND that BEST comes to with dice a, b.", Promises13To24Edges::bestStand);
-        holds(21, "Exceptions likewise (IllegalArgumentException: the dice, too).", Promises13To24Edges::bestRefused);
+        holds(21, "Exceptions likewise", Promises13To24Edges::bestRefused);
+        holds(21, "(IllegalArgumentException: the dice, too).", Promises13To24Edges::bestWithNoDice);
         holds(22, "WITHIN n rolls is printed: how many bytes.", Promises13To24Edges::withinPrinted);
-        holds(22, "IllegalArgumentException: it is no STAND, or n is not 0 to 12; IllegalStateException likewise.",
-                Promises13To24Edges::withinRefused);
+        holds(22, "IllegalArgumentException: it is no STAND, or n is not 0 to 12;",
+                Promises13To24Edges::withinOfNoStand);
+        holds(22, "IllegalStateException likewise.", Promises13To24Edges::withinNotKnown);
         holds(23, "RACE is printed: how many bytes.", Promises13To24Edges::racePrinted);
         holds(23, "IllegalArgumentException: one is no STAND;", Promises13To24Edges::raceOfNoStand);
         holds(23, "IllegalStateException: one is not KNOWN,", Promises13To24Edges::raceNotKnown);
@@ -472,16 +474,26 @@ final class Promises13To24Edges {
     private static final int[] NO_STANDS = {-1, -16, 0x1f, 0xf1, 0x88, 0xffffff, 0x1000000, 0x1000001, 0x10000000,
         Integer.MIN_VALUE, Integer.MAX_VALUE};
 
-    private static void rollsRefused() {
+    private static void rollsOfNoStand() {
         BearHouse x = learned(5);
         x.rolls(3);
         for (int stand : NO_STANDS) {
             Check.badArgument("rolls(" + stand + ")", () -> x.rolls(stand));
         }
+        Check.refused(ARGUMENT, "rolls(0x100000f)", x, () -> x.rolls(0x100000f));
+        Check.due("the PAGE stays", Check.page(x), "11/6");
+        BearHouse y = learned(90);
+        for (int stand : NO_STANDS) {
+            Check.badArgument("rolls(" + stand + ") at LEVEL 90", () -> y.rolls(stand));
+        }
+    }
+
+    private static void rollsNotKnown() {
+        BearHouse x = learned(5);
+        x.rolls(3);
         Check.badState("rolls(6)", () -> x.rolls(6));
         Check.badState("rolls(0xf00000)", () -> x.rolls(0xf00000));
         Check.refused(STATE, "rolls(0x100000) at LEVEL 5", x, () -> x.rolls(0x100000));
-        Check.refused(ARGUMENT, "rolls(0x100000f)", x, () -> x.rolls(0x100000f));
         Check.due("the PAGE stays", Check.page(x), "11/6");
         x.learn();
         printed(x, "rolls(0x100000) at LEVEL 6", x.rolls(0x100000), "5/4");
@@ -506,6 +518,15 @@ final class Promises13To24Edges {
         for (int stand : NO_STANDS) {
             Check.badArgument("best(" + stand + ", 1, 1)", () -> x.best(stand, 1, 1));
         }
+        Check.refused(STATE, "best(0x100000, 1, 1) at LEVEL 5", x, () -> x.best(0x100000, 1, 1));
+        Check.badState("best(6, 6, 6) at LEVEL 5", () -> x.best(6, 6, 6));
+        Check.refused(ARGUMENT, "best(-1, 1, 1)", x, () -> x.best(-1, 1, 1));
+        x.learn();
+        Check.due("best(6, 6, 6) at LEVEL 6", x.best(6, 6, 6), 2);
+    }
+
+    private static void bestWithNoDice() {
+        BearHouse x = learned(5);
         for (int far : Show.FAR) {
             Check.badArgument("best(1, " + far + ", 1)", () -> x.best(1, far, 1));
             Check.badArgument("best(1, 1, " + far + ")", () -> x.best(1, 1, far));
@@ -516,8 +537,7 @@ final class Promises13To24Edges {
             Check.badArgument("best(0, " + die + ", 1)", () -> x.best(0, die, 1));
             Check.badArgument("best(6, 1, " + die + "), not KNOWN", () -> x.best(6, 1, die));
         }
-        Check.refused(STATE, "best(0x100000, 1, 1) at LEVEL 5", x, () -> x.best(0x100000, 1, 1));
-        Check.badState("best(6, 6, 6) at LEVEL 5", () -> x.best(6, 6, 6));
+        Check.refused(ARGUMENT, "best(1, 0, 7)", x, () -> x.best(1, 0, 7));
         Check.due("best(5, 6, 1)", x.best(5, 6, 1), 3);
         Check.due("best(5, 1, 6)", x.best(5, 1, 6), 3);
     }
@@ -535,7 +555,7 @@ final class Promises13To24Edges {
         Check.due("ask(5)", x.ask(5), 1);
     }
 
-    private static void withinRefused() {
+    private static void withinOfNoStand() {
         BearHouse x = learned(5);
         x.rolls(3);
         for (int stand : NO_STANDS) {
@@ -548,6 +568,15 @@ final class Promises13To24Edges {
         Check.badArgument("within(1, 13)", () -> x.within(1, 13));
         Check.badArgument("within(0, 13)", () -> x.within(0, 13));
         Check.badArgument("within(6, 13), not KNOWN", () -> x.within(6, 13));
+        Check.refused(ARGUMENT, "within(3, 13)", x, () -> x.within(3, 13));
+        Check.due("the PAGE stays", Check.page(x), "11/6");
+        printed(x, "within(3, 12)", x.within(3, 12), "1");
+        printed(x, "within(3, 0)", x.within(3, 0), "0");
+    }
+
+    private static void withinNotKnown() {
+        BearHouse x = learned(5);
+        x.rolls(3);
         Check.badState("within(6, 12)", () -> x.within(6, 12));
         Check.badState("within(6, 0)", () -> x.within(6, 0));
         Check.refused(STATE, "within(0x100000, 1) at LEVEL 5", x, () -> x.within(0x100000, 1));

@@ -28,8 +28,8 @@ final class Terms1Edges {
         holds("No such row has more MOVES;", Terms1Edges::noRowHasMore);
         holds("and if it has one alone, and a row of one MOVE by the greater of unlike dice is there, "
                 + "it is by that one.", Terms1Edges::byTheGreater);
-        holds("(Without any MOVE the empty row is the only PLAY; so it is when the POSITION is OVER.)",
-                Terms1Edges::theEmptyRow);
+        holds("(Without any MOVE the empty row is the only PLAY;", Terms1Edges::theEmptyRow);
+        holds("so it is when the POSITION is OVER.)", Terms1Edges::theEmptyRowWhenOver);
         holds("RESULTS: the POSITIONS behind the PLAYS, the other PLAYER's TURN, each once:",
                 Terms1Edges::eachOnce);
         holds("numbered from 0 on by order: of two the first is the one that has more MEN of the one who moved "
@@ -334,20 +334,31 @@ final class Terms1Edges {
         play("20:1;13:2;0", "20/16", 4, 4);
     }
 
-    private static void theEmptyRow() {
-        for (String text : new String[] {"25:1,6:3;2:2,1:2;0", "6:1;;0", ";6:1;0", "6:1;;1", ";6:1;1"}) {
-            BearHouse x = Show.at(text);
-            Check.due("plays(1, 2) in " + text, x.plays(1, 2), 1);
-            for (int k = 0; k < 5; k++) {
-                Check.due("MOVE " + k + " in " + text, x.way(0, k), -1);
-            }
-            Check.due("its RESULT in " + text, Show.result(x, 0), text.substring(0, text.length() - 1));
-            int turn = x.ask(0);
-            Check.due("choose(0) in " + text, x.choose(0), 1 - turn);
-            Check.due("behind it", Show.board(x), text.substring(0, text.length() - 1) + (1 - turn));
+    private static void emptyRowIn(String text, int a, int b) {
+        BearHouse x = Show.at(text);
+        Check.due("plays in " + text, x.plays(a, b), 1);
+        for (int k = 0; k < 5; k++) {
+            Check.due("MOVE " + k + " in " + text, x.way(0, k), -1);
         }
-        ways("25:15;6:2,5:2,4:2,3:2,2:2,1:2;0", 6, 6, "-");
-        ways("6:1;;0", 6, 6, "-");
+        Check.due("its RESULT in " + text, Show.result(x, 0), text.substring(0, text.length() - 1));
+        int turn = x.ask(0);
+        Check.due("choose(0) in " + text, x.choose(0), 1 - turn);
+        Check.due("behind it", Show.board(x), text.substring(0, text.length() - 1) + (1 - turn));
+    }
+
+    private static void theEmptyRow() {
+        emptyRowIn("25:1,6:3;2:2,1:2;0", 1, 2);
+        emptyRowIn("25:15;6:2,5:2,4:2,3:2,2:2,1:2;0", 6, 6);
+        emptyRowIn("20:2;6:1;1", 1, 1);
+        emptyRowIn("7:1,1:1;19:2;0", 1, 1);
+        noPlay("25:1,6:3;2:2,1:2;0", "6/5 6/4", 1, 2);
+    }
+
+    private static void theEmptyRowWhenOver() {
+        for (String text : new String[] {"6:1;;0", ";6:1;0", "6:1;;1", ";6:1;1", "25:15;;0"}) {
+            emptyRowIn(text, 1, 2);
+            emptyRowIn(text, 6, 6);
+        }
         noPlay("6:1;;0", "6/off", 6, 6);
         noPlay("6:1;;0", "6/off", 6, 5);
     }

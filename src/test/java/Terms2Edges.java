@@ -23,8 +23,10 @@ final class Terms2Edges {
     private static void positions() {
         holds("A POSITION: men \";\" men \";\" NUMBER, the end.", Terms2Edges::wholePosition);
         holds("men = [ stack { \",\" stack } ]; stack = NUMBER \":\" NUMBER.", Terms2Edges::stacks);
-        holds("First PLAYER 0's MEN, then PLAYER 1's: own POINT (1 to 25) and how many (1 to 15); "
-                + "all others are OFF; then whose TURN (0, 1).", Terms2Edges::numbersOfAPosition);
+        holds("First PLAYER 0's MEN, then PLAYER 1's: own POINT (1 to 25)", Terms2Edges::ownPoints);
+        holds("and how many (1 to 15);", Terms2Edges::howMany);
+        holds("all others are OFF;", Terms2Edges::othersAreOff);
+        holds("then whose TURN (0, 1).", Terms2Edges::whoseTurn);
         holds("3 at a POINT that this PLAYER has already;", Terms2Edges::pointAgain);
         holds("4 at a number of MEN by which it has more than 15;", Terms2Edges::moreThanFifteen);
         holds("5 at PLAYER 1's POINT where PLAYER 0 has MEN;", Terms2Edges::pointOfTheOther);
@@ -34,7 +36,8 @@ final class Terms2Edges {
     private static void moves() {
         holds("MOVES: move { move }, the end.", Terms2Edges::wholeMoves);
         holds("move = from step { step } [ \"(\" NUMBER \")\" ]; step = \"/\" to [ \"*\" ].", Terms2Edges::move);
-        holds("from = NUMBER (1 to 24) | \"bar\"; to = NUMBER (1 to 24) | \"off\".", Terms2Edges::fromAndTo);
+        holds("from = NUMBER (1 to 24) | \"bar\";", Terms2Edges::from);
+        holds("to = NUMBER (1 to 24) | \"off\".", Terms2Edges::to);
         holds("Each step is a MOVE: from where the one ahead in this move came to (from, at first) to there;",
                 Terms2Edges::steps);
         holds("the NUMBER in brackets (2 to 4): all its steps are gone so often, one time behind the other",
@@ -43,8 +46,9 @@ final class Terms2Edges {
         holds("At most 8 MOVES (7 at the token by which there are more: a to, or that NUMBER).",
                 Terms2Edges::eightMoves);
         holds("A MOVE with * is one that hits, without one that doesn't.", Terms2Edges::stars);
-        holds("What they tell is looked at behind the end: 3 they are no PLAY in this order; "
-                + "4 they are one, but a * is wrong (both at the text's length).", Terms2Edges::behindTheEnd);
+        holds("What they tell is looked at behind the end: 3 they are no PLAY in this order;",
+                Terms2Edges::noPlayInThisOrder);
+        holds("4 they are one, but a * is wrong (both at the text's length).", Terms2Edges::wrongStar);
     }
 
     private static void holds(String sentence, Runnable test) {
@@ -217,7 +221,7 @@ final class Terms2Edges {
         bad("6:1;;000", 2, 5);
         bad("6:1;;001", 2, 5);
         // Where a number of 32 or 64 bits would wrap around to a good one.
-        for (String wrapped : new String[] {"4294967297", "18446744073709551617", "340282366920938463463374607431768211457"}) {
+        for (String wrapped : new String[] {"257", "65537", "4294967297", "18446744073709551617"}) {
             bad(wrapped + ":1;;0", 2, 0);
             bad("6:" + wrapped + ";;0", 2, 2);
             bad("6:1;;" + wrapped, 2, 5);
@@ -294,21 +298,44 @@ final class Terms2Edges {
         bad(":1;;0", 1, 0);
     }
 
-    private static void numbersOfAPosition() {
+    private static void ownPoints() {
         for (int value = 0; value <= 99; value++) {
-            bad(value + ":1;;0", value >= 1 && value <= 25 ? 0 : 2, value >= 1 && value <= 25 ? -1 : 0);
-            bad(";" + value + ":1;0", value >= 1 && value <= 25 ? 0 : 2, value >= 1 && value <= 25 ? -1 : 1);
-            bad("6:" + value + ";;0", value >= 1 && value <= 15 ? 0 : 2, value >= 1 && value <= 15 ? -1 : 2);
-            bad(";6:" + value + ";0", value >= 1 && value <= 15 ? 0 : 2, value >= 1 && value <= 15 ? -1 : 3);
-            bad("6:1;;" + value, value <= 1 ? 0 : 2, value <= 1 ? -1 : 5);
+            boolean told = value >= 1 && value <= 25;
+            bad(value + ":1;;0", told ? 0 : 2, told ? -1 : 0);
+            bad(";" + value + ":1;0", told ? 0 : 2, told ? -1 : 1);
         }
+        Check.due("0's first, then 1's", Show.board(Show.at("25:3,1:4;7:15;1")), "25:3,1:4;7:15;1");
+        Check.due("in whatever order", Show.board(Show.at("1:4,25:3;7:1,20:2,1:3;0")), "25:3,1:4;20:2,7:1,1:3;0");
+    }
+
+    private static void howMany() {
+        for (int value = 0; value <= 99; value++) {
+            boolean told = value >= 1 && value <= 15;
+            bad("6:" + value + ";;0", told ? 0 : 2, told ? -1 : 2);
+            bad(";6:" + value + ";0", told ? 0 : 2, told ? -1 : 3);
+            if (told) {
+                Check.due("men(0, 6)", Show.at("6:" + value + ";;0").men(0, 6), value);
+            }
+        }
+    }
+
+    private static void othersAreOff() {
         BearHouse x = Show.at("25:3,1:4;7:15;1");
         Check.due("all others of 0", x.men(0, 0), 8);
         Check.due("all others of 1", x.men(1, 0), 0);
-        Check.due("0's first, then 1's", Show.board(x), "25:3,1:4;7:15;1");
         Check.due("a text ahead leaves nothing", Check.position(x, "2:1;;0"), 0);
         Check.due("all others of 0", x.men(0, 0), 14);
-        Check.due("all others of 1", x.men(1, 0), 15);
+        Check.due("all of 1", x.men(1, 0), 15);
+    }
+
+    private static void whoseTurn() {
+        for (int value = 0; value <= 99; value++) {
+            bad("6:1;;" + value, value <= 1 ? 0 : 2, value <= 1 ? -1 : 5);
+        }
+        Check.due("0's TURN", Show.at("6:1;;0").ask(0), 0);
+        Check.due("1's TURN", Show.at("6:1;;1").ask(0), 1);
+        Check.due("0's TURN, of two digits", Show.at("6:1;;00").ask(0), 0);
+        Check.due("1's TURN, of two digits", Show.at("6:1;;01").ask(0), 1);
     }
 
     private static void pointAgain() {
@@ -413,23 +440,38 @@ final class Terms2Edges {
         goodMoves("8:3,6:5;18:1;0", "8/7* 8/7(2) 6/5", 1, 1);
     }
 
-    private static void fromAndTo() {
+    private static void from() {
         for (int value = 0; value <= 99; value++) {
             boolean told = value >= 1 && value <= 24;
             // 9 MOVES are too many, so the text is read up to there when the NUMBER is good.
             noMoves(value + "/7(4)5/4(4)3/2", told ? 7 : 2, told ? (value < 10 ? 14 : 15) : 0);
-            noMoves("8/" + value, told ? 3 : 2, told ? (value < 10 ? 3 : 4) : 2);
         }
         noMoves("off/7", 1, 0);
-        noMoves("8/bar", 1, 2);
-        noMoves("8/7/bar", 1, 4);
+        noMoves("8/7 off/7", 1, 4);
+        noMoves("baroff", 1, 0);
+        noMoves("ba/24", 1, 0);
+        noMoves("rab/24", 1, 0);
         goodMoves("25:1;12:1;0", "bar/24/23/22/21", 1, 1);
         goodMoves("24:1;12:1;0", "24/23/22/21/20", 1, 1);
         goodMoves("1:1;12:1;0", "1/off", 1, 1);
-        goodMoves("2:1;12:1;0", "2/1/off", 1, 1);
-        noMoves("baroff", 1, 0);
+        // The BAR is told by its word alone.
+        badMoves("25:1;12:1;0", "25/24/23/22/21", 1, 1, 2, 0);
+    }
+
+    private static void to() {
+        for (int value = 0; value <= 99; value++) {
+            boolean told = value >= 1 && value <= 24;
+            noMoves("8/" + value, told ? 3 : 2, told ? (value < 10 ? 3 : 4) : 2);
+        }
+        noMoves("8/bar", 1, 2);
+        noMoves("8/7/bar", 1, 4);
         noMoves("bar/of", 1, 4);
-        noMoves("ba/24", 1, 0);
+        noMoves("bar/ffo", 1, 4);
+        goodMoves("25:1;12:1;0", "bar/24/23/22/21", 1, 1);
+        goodMoves("2:1;12:1;0", "2/1/off", 1, 1);
+        goodMoves("6:1;12:1;0", "6/off", 6, 6);
+        // OFF is told by its word alone.
+        badMoves("6:1;12:1;0", "6/0", 6, 6, 2, 2);
     }
 
     private static void steps() {
@@ -526,7 +568,7 @@ final class Terms2Edges {
         badMoves("6:1;25:1;0", "6/off*", 6, 6, 4, 6);
     }
 
-    private static void behindTheEnd() {
+    private static void noPlayInThisOrder() {
         badMoves(PLAIN, "8/5", 3, 1, 3, 3);
         badMoves(PLAIN, "8/5 6/5 6/5", 3, 1, 3, 11);
         badMoves(PLAIN, "8/5 6/4", 3, 1, 3, 7);
@@ -535,13 +577,20 @@ final class Terms2Edges {
         badMoves("7:1,6:1;12:1;0", "6/off 7/6", 6, 1, 3, 9);
         badMoves("25:1,6:1;12:1;0", "6/5 bar/22", 3, 1, 3, 10);
         goodMoves("25:1,6:1;12:1;0", "bar/22 6/5", 3, 1);
-        // 3 ahead of 4: a * is asked of a PLAY alone.
-        badMoves(PLAIN, "8/5*", 3, 1, 3, 4);
-        badMoves(PLAIN, "8/5* 6/5", 3, 1, 4, 8);
-        badMoves(PLAIN, "8/5 6/5*", 3, 1, 4, 8);
-        badMoves(PLAIN, "8/5 6/5* \n", 3, 1, 4, 10);
         // The empty row is the only PLAY.
         badMoves("25:1,6:1;1:2;0", "6/5", 1, 1, 3, 3);
         badMoves("6:1;;0", "6/off", 6, 6, 3, 5);
+    }
+
+    private static void wrongStar() {
+        badMoves(PLAIN, "8/5* 6/5", 3, 1, 4, 8);
+        badMoves(PLAIN, "8/5 6/5*", 3, 1, 4, 8);
+        badMoves(PLAIN, "8/5 6/5* \n", 3, 1, 4, 10);
+        badMoves("8:1,6:1;20:1;0", "8/5 6/5", 3, 1, 4, 7);
+        goodMoves("8:1,6:1;20:1;0", "8/5* 6/5", 3, 1);
+        goodMoves("8:1,6:1;20:1;0", "6/5* 8/5", 3, 1);
+        badMoves("8:1,6:1;20:1;0", "6/5 8/5*", 3, 1, 4, 8);
+        // 3 ahead of 4: a * is asked of a PLAY alone.
+        badMoves(PLAIN, "8/5*", 3, 1, 3, 4);
     }
 }

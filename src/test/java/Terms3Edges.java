@@ -369,6 +369,8 @@ final class Terms3Edges {
         ending(Games.NONE_OFF_18, 0, 0, 18, 2);
         ending(Games.NONE_OFF_18, 1, 0, 18, 2);
         ending(Games.NONE_OFF_18, 2, 0, 18, 2);
+        // One MAN OFF, and it is once.
+        ending(Games.ONE_OFF_6, 0, 1, 6, 1);
     }
 
     private static void threeTimesTheCube() {
@@ -377,6 +379,10 @@ final class Terms3Edges {
         ending(Games.NONE_OFF_BAR, 0, 0, 25, 3);
         ending(Games.NONE_OFF_19, 1, 0, 19, 3);
         ending(Games.NONE_OFF_BAR, 2, 0, 25, 3);
+        // None there, and it is twice; one there, but one OFF besides, and it is once.
+        ending(Games.NONE_OFF_18, 0, 0, 18, 2);
+        ending(Games.ONE_OFF_19, 0, 1, 19, 1);
+        ending(Games.ONE_OFF_BAR, 0, 1, 25, 1);
     }
 
     private static void theMatchIsOver() {

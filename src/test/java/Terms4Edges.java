@@ -220,8 +220,12 @@ final class Terms4Edges {
         BearHouse y = learned(15);
         BigInteger[] least = new BigInteger[16];
         for (int men = 0; men <= 15; men++) {
-            least[men] = men == 0 ? BigInteger.ZERO : SCALE.add(BigInteger.valueOf(30).multiply(least[Math.max(men - 2, 0)])
-                    .add(BigInteger.valueOf(6).multiply(least[Math.max(men - 4, 0)])).divide(DICE));
+            least[men] = BigInteger.ZERO;
+            if (men > 0) {
+                BigInteger unlike = BigInteger.valueOf(30).multiply(least[Math.max(men - 2, 0)]);
+                BigInteger alike = BigInteger.valueOf(6).multiply(least[Math.max(men - 4, 0)]);
+                least[men] = SCALE.add(unlike.add(alike).divide(DICE));
+            }
             printed(y, "rolls(" + men + ")", y.rolls(men), fraction(least[men], SCALE));
         }
         // The largest STAND there is.
@@ -233,8 +237,9 @@ final class Terms4Edges {
     private static void firstOfTheLeast() {
         BearHouse x = learned(20);
         // Both RESULTS take one roll (or 11/6): the first in order has the more MEN on the higher POINT.
-        int[][] ties = {{0x12, 1, 2, 0x2}, {0x12, 1, 6, 0x2}, {0x21, 1, 2, 0x10}, {0x21, 6, 1, 0x10}, {0x102, 1, 3, 0x2},
-            {0x102, 2, 6, 0x2}, {0x110, 1, 2, 0x10}, {0x110, 1, 6, 0x10}, {0x1001, 2, 1, 0x10}, {0x14, 1, 1, 0x10},
+        int[][] ties = {{0x12, 1, 2, 0x2}, {0x12, 1, 6, 0x2}, {0x21, 1, 2, 0x10}, {0x21, 6, 1, 0x10},
+            {0x102, 1, 3, 0x2}, {0x102, 2, 6, 0x2}, {0x110, 1, 2, 0x10}, {0x110, 1, 6, 0x10},
+            {0x1001, 2, 1, 0x10}, {0x14, 1, 1, 0x10},
             {0x14, 1, 2, 0x4}, {0x14, 6, 1, 0x4}, {0x23, 2, 1, 0x12}, {0x23, 1, 6, 0x12}};
         for (int[] tie : ties) {
             Check.due("best(" + tie[0] + ", " + tie[1] + ", " + tie[2] + ")", x.best(tie[0], tie[1], tie[2]), tie[3]);

@@ -117,7 +117,7 @@ public final class TextFuzzTest {
             int[] m = moves.get(k);
             text.append(name(m[0], "bar")).append('/').append(name(m[1], "off")).append(star(m, chance));
             int same = 1;
-            while (k + same < moves.size() && Arrays.equals(Arrays.copyOf(moves.get(k + same), 2), Arrays.copyOf(m, 2))) {
+            while (k + same < moves.size() && Arrays.equals(moves.get(k + same), 0, 2, m, 0, 2)) {
                 same++;
             }
             if (same > 1 && chance.nextBoolean()) {
