@@ -1,12 +1,16 @@
 import java.math.BigInteger;
 import java.util.ArrayList;
+import java.util.Arrays;
 import java.util.HashMap;
 import java.util.List;
 import java.util.Map;
 import java.util.Random;
 import java.util.TreeSet;
 
-/** Promises 19 to 24, compared with part 4 of the document worked out once more in big numbers. */
+/**
+ * Promises 19 to 24, compared with part 4 of the document worked out once more in big numbers. Some of
+ * the STANDS are asked for; with "all" among the arguments every one, which takes about half an hour.
+ */
 public final class BearingTest {
     private static final BigInteger ROLLS = BigInteger.valueOf(36);
     private static final BigInteger SCALE = ROLLS.pow(40);
@@ -18,11 +22,14 @@ public final class BearingTest {
     public static void main(String[] args) {
         workOut();
         learning();
-        known();
+        knownFirst();
+        knownFrom(0, 45);
+        knownFrom(45, 90);
         wrongArguments();
         smallOnes();
         Random chance = new Random(36);
-        everyStand(chance);
+        stands(chance, Arrays.asList(args).contains("all") ? 1 : 97);
+        alone();
         races(chance);
         Check.finish("BearingTest");
     }
@@ -172,7 +179,7 @@ public final class BearingTest {
         Check.due("ask(7) in a match", x.ask(7), 90);
     }
 
-    private static void known() {
+    private static void knownFirst() {
         BearHouse x = new BearHouse();
         Check.due("rolls(0) at LEVEL 0", x.rolls(0), 1);
         Check.due("page", Check.page(x), "0");
@@ -182,7 +189,11 @@ public final class BearingTest {
         Check.due("page", Check.page(x), "1");
         Check.due("within(0, 12)", x.within(0, 12), 1);
         Check.due("page", Check.page(x), "1");
-        for (int level = 0; level < 90; level++) {
+    }
+
+    private static void knownFrom(int least, int most) {
+        BearHouse x = learned(least);
+        for (int level = least; level < most; level++) {
             int[] men = new int[7];
             int left = level + 1;
             for (int p = 6; p >= 1; p--) {
@@ -252,14 +263,17 @@ public final class BearingTest {
         Check.due("the PAGE of " + call, Check.page(x), want);
     }
 
-    private static void everyStand(Random chance) {
-        BearHouse x = learned(90);
-        int k = 0;
-        for (int stand : ALL) {
-            k++;
-            if (k % 7 != 0 && men(stand) > 4 && stand != 0xf00000) {
+    /** All with few MEN, and of the others some. Two an object: each takes up to 170 of its 512 calls. */
+    private static void stands(Random chance, int step) {
+        BearHouse x = null;
+        int asked = 0;
+        for (int k = 0; k < ALL.size(); k++) {
+            int stand = ALL.get(k);
+            if (k % step != 0 && men(stand) > 3 && stand != 0xf00000) {
                 continue;
             }
+            x = asked % 2 == 0 ? learned(90) : x;
+            asked++;
             printed(x, "rolls(" + stand + ")", x.rolls(stand), fraction(LEAST.get(stand), SCALE));
             for (int at = 0; at < 36; at++) {
                 Check.due("best(" + stand + ", .., ..) " + at, x.best(stand, at / 6 + 1, at % 6 + 1),
@@ -269,7 +283,10 @@ public final class BearingTest {
             printed(x, "within(" + stand + ", " + n + ")", x.within(stand, n),
                     fraction(within(stand, n), ROLLS.pow(n)));
         }
-        // Asked alone, on a new object, the answer is the same.
+    }
+
+    /** Asked alone, on a new object of just so many PIPS, the answer is the same. */
+    private static void alone() {
         for (int stand : new int[] {0xf00000, 0x333330, 0x00000f, 0x210210, 0x100000 * 7 + 8}) {
             BearHouse y = learned(pips(stand));
             printed(y, "rolls(" + stand + ")", y.rolls(stand), fraction(LEAST.get(stand), SCALE));
@@ -284,25 +301,35 @@ public final class BearingTest {
         return within(stand, 12).equals(ROLLS.pow(12));
     }
 
+    /** Five an object: each takes up to 80 of its 512 calls. Few of large STANDS, since these are slow. */
     private static void races(Random chance) {
-        BearHouse x = learned(90);
+        BearHouse x = null;
         int unsure = 0;
         int longest = 0;
-        for (int k = 0; k < 4000; k++) {
-            int first = ALL.get(chance.nextInt(k % 2 == 0 ? 54264 : 3000));
-            int second = ALL.get(chance.nextInt(k % 3 == 0 ? 54264 : 3000));
-            String call = "race(" + first + ", " + second + ")";
-            if (first == 0 && second == 0) {
-                Check.throwing(UnsupportedOperationException.class, call, () -> x.race(0, 0));
-            } else if (sure(first) && sure(second)) {
-                printed(x, call, x.race(first, second), fraction(raceOf(first, second), ROLLS.pow(24)));
-                longest = Math.max(longest, x.ask(5));
+        for (int k = 0; k < 500; k++) {
+            x = k % 5 == 0 ? learned(90) : x;
+            int bound = k / 5 % 8 == 0 ? 54264 : 3000;
+            int first = ALL.get(chance.nextInt(bound));
+            int second = ALL.get(chance.nextInt(bound));
+            if (sure(first) && sure(second)) {
+                longest = Math.max(longest, fraction(raceOf(first, second), ROLLS.pow(24)).length());
             } else {
                 unsure++;
-                Check.badState(call, () -> x.race(first, second));
             }
+            race(x, first, second);
         }
-        Check.due("some races were not sure", unsure > 100 ? 1 : 0, 1);
+        Check.due("some races were not sure", unsure > 20 ? 1 : 0, 1);
         Check.due("some races were long", longest > 60 ? 1 : 0, 1);
+    }
+
+    private static void race(BearHouse x, int first, int second) {
+        String call = "race(" + first + ", " + second + ")";
+        if (first == 0 && second == 0) {
+            Check.throwing(UnsupportedOperationException.class, call, () -> x.race(0, 0));
+        } else if (sure(first) && sure(second)) {
+            printed(x, call, x.race(first, second), fraction(raceOf(first, second), ROLLS.pow(24)));
+        } else {
+            Check.badState(call, () -> x.race(first, second));
+        }
     }
 }

@@ -10,56 +10,87 @@ import java.util.List;
 import java.util.Set;
 import java.util.TreeSet;
 
-/** The face of the document, and what can be seen of LANGUAGE.md's rules; args[0] is the source file. */
+/** The face of the document, args[1], and what of LANGUAGE.md's rules can be seen; args[0] is the source file. */
 public final class FormTest {
-    private static final Set<String> FACE = new TreeSet<>(Arrays.asList(
-            "int feed(int,int,int,int,int)", "int position(int)", "int fault()", "int men(int,int)",
-            "int ask(int)", "int plays(int,int)", "int result(int,int,int)", "int way(int,int)",
-            "int choose(int)", "int say(int,int,int)", "boolean back()", "void begin(int)",
-            "int roll(int,int)", "int offer()", "int answer(boolean)", "void next()", "int match(int)",
-            "int learn()", "int rolls(int)", "int best(int,int,int)", "int within(int,int)",
-            "int race(int,int)", "int octet(int)"));
+    private static final String THROWABLE = "(IllegalState|IllegalArgument|IndexOutOfBounds|Arithmetic"
+            + "|UnsupportedOperation|NoSuchElement|Runtime)Exception";
+    private static final String METHOD = "( {4}| {8})(public|private|static|void|int|long|boolean|[A-Z]\\w*)\\b"
+            + "[^=;]*[(][^;]*";
 
     public static void main(String[] args) throws Exception {
-        face();
+        String source = Files.readString(Path.of(args[0]));
+        List<String> face = faceOf(Files.readString(Path.of(args[1])));
+        face(face);
+        declared(face, source.replaceAll("\\s+", " "));
+        names();
         insides();
-        source(Files.readString(Path.of(args[0])));
+        source(source);
+        lengths(source);
         room();
         Check.finish("FormTest");
     }
 
-    private static void face() {
-        Set<String> seen = new TreeSet<>();
-        Set<String> names = new TreeSet<>();
-        for (Method m : BearHouse.class.getDeclaredMethods()) {
-            if (Modifier.isPublic(m.getModifiers())) {
-                List<String> types = new ArrayList<>();
-                for (Class<?> type : m.getParameterTypes()) {
-                    types.add(type.getSimpleName());
-                }
-                seen.add(m.getReturnType() + " " + m.getName() + "(" + String.join(",", types) + ")");
-                names.add(m.getName());
+    /** The members that the document shows, one a line. */
+    private static List<String> faceOf(String document) {
+        int start = document.indexOf("```java");
+        List<String> out = new ArrayList<>();
+        for (String line : document.substring(start, document.indexOf("```", start + 3)).split("\n")) {
+            if (line.startsWith("    public ")) {
+                out.add(line.strip().replace(";", ""));
             }
         }
-        Check.due("the public methods", seen.toString(), FACE.toString());
-        Check.due("the class is final", Modifier.isFinal(BearHouse.class.getModifiers()) ? 1 : 0, 1);
-        for (Field f : BearHouse.class.getDeclaredFields()) {
-            boolean shown = f.getName().equals("NONE");
-            Check.due("the field " + f.getName() + " is private",
-                    Modifier.isPrivate(f.getModifiers()) ? 1 : 0, shown ? 0 : 1);
+        Check.due("members that the document shows", out.size(), 25);
+        return out;
+    }
+
+    /** No member is shown but those of the document, and these with their types. */
+    private static void face(List<String> face) {
+        Set<String> want = new TreeSet<>();
+        for (String member : face) {
+            String bare = member.replaceFirst(" throws .*", "").replaceFirst(" = .*", "");
+            want.add(bare.replaceAll("(int|boolean) \\w+([,)])", "$1$2").replace(", ", ","));
         }
-        Constructor<?>[] made = BearHouse.class.getDeclaredConstructors();
-        Check.due("constructors", made.length, 1);
+        Set<String> seen = new TreeSet<>();
+        for (Method m : BearHouse.class.getDeclaredMethods()) {
+            if (!Modifier.isPrivate(m.getModifiers())) {
+                seen.add(m.toGenericString().replace("BearHouse.", "").replaceFirst(" throws .*", ""));
+            }
+        }
+        for (Field f : BearHouse.class.getDeclaredFields()) {
+            if (!Modifier.isPrivate(f.getModifiers())) {
+                seen.add(f.toString().replace("BearHouse.", ""));
+            }
+        }
+        for (Constructor<?> c : BearHouse.class.getDeclaredConstructors()) {
+            seen.add(c.toString());
+        }
+        Check.due("the members that are shown", seen.toString(), want.toString());
+        int modifiers = BearHouse.class.getModifiers();
+        Check.due("the class is public", Modifier.isPublic(modifiers) ? 1 : 0, 1);
+        Check.due("the class is final", Modifier.isFinal(modifiers) ? 1 : 0, 1);
+    }
+
+    /** Word by word, so that the names of parameters, the exceptions and the constant's value are looked at too. */
+    private static void declared(List<String> face, String source) {
+        for (String member : face) {
+            boolean there = source.contains(member + (member.contains("=") ? ";" : " {"));
+            Check.due("the source has: " + member, there ? 1 : 0, 1);
+        }
+    }
+
+    private static void names() {
+        Set<String> shownNames = new TreeSet<>();
+        for (Method m : BearHouse.class.getMethods()) {
+            shownNames.add(m.getDeclaringClass() == BearHouse.class ? m.getName() : "");
+        }
         List<Class<?>> classes = new ArrayList<>(Arrays.asList(BearHouse.class.getDeclaredClasses()));
         classes.add(BearHouse.class);
         for (Class<?> c : classes) {
             for (Method m : c.getDeclaredMethods()) {
                 boolean shown = c == BearHouse.class && Modifier.isPublic(m.getModifiers());
                 Check.due(c.getSimpleName() + "." + m.getName() + " has a name of its own",
-                        !shown && names.contains(m.getName()) ? 1 : 0, 0);
+                        !shown && shownNames.contains(m.getName()) ? 1 : 0, 0);
                 Check.due(m.getName() + " has a few parameters", m.getParameterCount() <= 7 ? 1 : 0, 1);
-                Check.due(m.getName() + " is no shown one",
-                        c == BearHouse.class && !shown && !Modifier.isPrivate(m.getModifiers()) ? 1 : 0, 0);
             }
         }
     }
@@ -72,16 +103,24 @@ public final class FormTest {
             int fields = 0;
             for (Field f : c.getDeclaredFields()) {
                 fields += Modifier.isStatic(f.getModifiers()) ? 0 : 1;
-                Check.due(f.getName() + " is final if static",
-                        Modifier.isStatic(f.getModifiers()) && !Modifier.isFinal(f.getModifiers()) ? 1 : 0, 0);
+                Check.due(f.getName() + " is a constant if static",
+                        Modifier.isStatic(f.getModifiers()) && !isConstant(f) ? 1 : 0, 0);
             }
             Check.due(c.getSimpleName() + " has a few fields", fields <= 20 ? 1 : 0, 1);
         }
     }
 
+    private static boolean isConstant(Field f) {
+        return Modifier.isFinal(f.getModifiers())
+                && f.getType().getSimpleName().matches("int|long|boolean|char|String|int\\[\\]|long\\[\\]");
+    }
+
     private static void source(String text) {
         String code = text.replaceAll("(?s)/\\*.*?\\*/", "").replaceAll("//[^\n]*", "")
                 .replaceAll("\"[^\"\n]*\"", "\"\"");
+        Check.due("each throw is of a new one that rule 6 lists",
+                code.replaceAll("throw new " + THROWABLE + "\\((\"\")?\\);", "")
+                        .matches("(?s).*\\bthrow\\b.*") ? 1 : 0, 0);
         for (String word : new String[] {"try", "catch", "finally", "synchronized", "assert", "instanceof",
             "double", "float", "Exact", "getMessage", "package", "Random", "System.currentTimeMillis",
             "System.nanoTime", "System.out", "System.exit", "Thread", "hashCode", "toString"}) {
@@ -95,6 +134,24 @@ public final class FormTest {
                         || line.equals("import java.util.NoSuchElementException;") ? 1 : 0, 1);
             }
         }
+    }
+
+    /** From a method's first line to the one that closes it; rule 11 speaks of some sixty. */
+    private static void lengths(String text) {
+        String[] lines = text.split("\n");
+        int methods = 0;
+        for (int k = 0; k < lines.length; k++) {
+            if (lines[k].matches(METHOD)) {
+                String end = lines[k].substring(0, lines[k].length() - lines[k].stripLeading().length()) + "}";
+                int length = 1;
+                while (k + length < lines.length && !lines[k + length].equals(end)) {
+                    length++;
+                }
+                Check.due("the method is short: " + lines[k].strip(), length < 60 ? 1 : 0, 1);
+                methods++;
+            }
+        }
+        Check.due("methods were found", methods > 100 ? 1 : 0, 1);
     }
 
     /** What a run makes, in bytes: an element takes at most eight, an object or array some sixteen more. */

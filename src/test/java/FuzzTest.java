@@ -23,9 +23,9 @@ public final class FuzzTest {
     }
 
     public static void main(String[] args) {
-        for (int k = 0; k < 1500; k++) {
+        for (int k = 0; k < 2500; k++) {
             FuzzTest run = new FuzzTest(new Random(k));
-            for (int call = 0; call < 250; call++) {
+            for (int call = 0; call < 140; call++) {
                 run.step();
             }
         }

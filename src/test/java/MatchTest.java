@@ -316,7 +316,7 @@ public final class MatchTest {
         x.offer();
         x.answer(true);
         int rolls = 1;
-        for (int k = 0; k < 150 && x.match(0) == 2; k++) {
+        for (int k = 0; k < 70 && x.match(0) == 2; k++) {
             boolean wins = x.ask(0) == winner;
             int a = wins ? 4 + chance.nextInt(3) : 1 + chance.nextInt(stay == 0 ? 6 : 2);
             int b = wins ? 1 + chance.nextInt(6) : 1 + chance.nextInt(stay == 0 ? 6 : 2);
